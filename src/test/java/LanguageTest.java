@@ -35,9 +35,9 @@ final class LanguageTest {
         rules.put("rule 5, a static initialiser block", "\\bstatic\\s*\\{");
         rules.put("rule 6", "\\b(finally|synchronized|assert|getMessage)\\b");
         rules.put("rule 6, an exception beyond the list",
-                "\\bthrow\\s+(?!new\\s+(IllegalState|IllegalArgument|IndexOutOfBounds|Arithmetic"
-                        + "|UnsupportedOperation|NoSuchElement|Runtime)(Exception|"
-                        + "OperationException|ElementException)?\\()[^;]*;");
+                "\\bthrow\\s+(?!new\\s+(IllegalStateException|IllegalArgumentException"
+                        + "|IndexOutOfBoundsException)\\()[^;]*;");
+        rules.put("a catch, which this program has no need of", "\\bcatch\\b");
         rules.put("rule 6, equals, hashCode or toString of one's own",
                 "\\b(equals|hashCode|toString)\\b");
         rules.put("rule 13", "\\b(System\\.(?!arraycopy\\b)\\w+|Random|Thread|java\\.(io|nio|net))\\b");
