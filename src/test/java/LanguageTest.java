@@ -40,7 +40,8 @@ final class LanguageTest {
         rules.put("a catch, which this program has no need of", "\\bcatch\\b");
         rules.put("rule 6, equals, hashCode or toString of one's own",
                 "\\b(equals|hashCode|toString)\\b");
-        rules.put("rule 13", "\\b(System\\.(?!arraycopy\\b)\\w+|Random|Thread|java\\.(io|nio|net))\\b");
+        rules.put("rule 13",
+                "\\b(System\\.(?!arraycopy\\b)\\w+|Random|Thread|java\\.(io|nio|net))\\b");
         return rules;
     }
 
