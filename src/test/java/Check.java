@@ -31,6 +31,12 @@ final class Check {
         }
     }
 
+    /** Names sentences from ahead of the promises, for the answers from here on. */
+    void aheadOfPromises(String... sentences) {
+        about = "";
+        terms(sentences);
+    }
+
     void same(String call, long got, long due) {
         if (got != due) {
             report(call + " answered " + got + ", due is " + due);

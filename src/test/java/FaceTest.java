@@ -1,28 +1,43 @@
+import java.io.IOException;
 import java.lang.reflect.Constructor;
 import java.lang.reflect.Field;
 import java.lang.reflect.Method;
 import java.lang.reflect.Modifier;
+import java.nio.file.Files;
+import java.nio.file.Path;
 import java.util.ArrayList;
 import java.util.Arrays;
 import java.util.HashSet;
 import java.util.List;
 import java.util.Set;
 import java.util.TreeSet;
+import java.util.regex.Matcher;
+import java.util.regex.Pattern;
 
 /** The public face, as the document has it, and nothing beside it. */
 final class FaceTest {
+    private static final Path DOCUMENT = Path.of("../shared/DOC.md");
+    private static final Path PROGRAM = Path.of("src/main/java/Privacyledger.java");
+
     private static final Check CHECK = new Check();
 
     private static final String BOUNDS = "IndexOutOfBoundsException";
     private static final String ARGUMENT = "IllegalArgumentException";
     private static final String STATE = "IllegalStateException";
 
-    public static void main(String[] args) {
+    public static void main(String[] args) throws IOException {
         theClass();
         theConstants();
         theConstructor();
         theMethods();
         privateNamesAreOthers();
+        List<String> program = Files.readAllLines(PROGRAM);
+        if (Files.isReadable(DOCUMENT)) {
+            wordsOfTheDocument(Files.readString(DOCUMENT), String.join("\n", program));
+        } else {
+            System.out.println("there is no " + DOCUMENT + " to compare with");
+        }
+        headings(program);
         CHECK.end();
     }
 
@@ -105,6 +120,63 @@ final class FaceTest {
                 CHECK.report("a private method is named " + method.getName());
             }
         }
+    }
+
+    /** Ahead of which calls the program says what the interface says ahead of them. */
+    private static void headings(List<String> program) {
+        List<String> got = new ArrayList<>();
+        String heading = "";
+        List<String> calls = new ArrayList<>();
+        for (String line : program) {
+            Matcher call = Pattern.compile("    public \\w+ (\\w+)\\(.*").matcher(line);
+            if (line.startsWith("    // ---- ")) {
+                addHeading(got, heading, calls);
+                heading = line.substring(7);
+                calls.clear();
+            } else if (call.matches()) {
+                calls.add("`" + call.group(1) + "`");
+            }
+        }
+        addHeading(got, heading, calls);
+        for (String due : Terms.HEADINGS) {
+            CHECK.aheadOfPromises(due);
+            CHECK.same("the program says so", got.remove(due), true);
+        }
+        for (String other : got) {
+            CHECK.report("the program says: " + other);
+        }
+    }
+
+    private static void addHeading(List<String> all, String heading, List<String> calls) {
+        if (!calls.isEmpty()) {
+            all.add("Ahead of the calls " + String.join(", ", calls) + " the interface says: "
+                    + heading + ".");
+        }
+    }
+
+    /** The document's lines stand in the program, word by word, in their order and no others. */
+    private static void wordsOfTheDocument(String document, String program) {
+        int start = document.indexOf("public final class Privacyledger {");
+        List<String> due = publicLines(document.substring(start, document.indexOf("```", start)));
+        List<String> got = publicLines(program.replaceAll("(?s)/\\*.*?\\*/", " ")
+                .replaceAll("//[^\n]*", " "));
+        for (int i = 0; i < Math.max(got.size(), due.size()); i++) {
+            String line = i < due.size() ? due.get(i) : "nothing";
+            String said = i < got.size() ? got.get(i) : "nothing";
+            if (!said.equals(line)) {
+                CHECK.report("the face says: " + said + " - due is: " + line);
+            }
+        }
+        CHECK.same("the document's lines, of which 29 are calls", due.size(), 33);
+    }
+
+    private static List<String> publicLines(String code) {
+        List<String> lines = new ArrayList<>();
+        Matcher line = Pattern.compile("\\bpublic\\b[^;{]*").matcher(code);
+        while (line.find()) {
+            lines.add(line.group().replaceAll("\\s+", " ").strip());
+        }
+        return lines;
     }
 
     private static String face(String call, String... exceptions) {

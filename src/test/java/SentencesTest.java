@@ -1,22 +1,17 @@
 import java.io.IOException;
 import java.nio.file.Files;
 import java.nio.file.Path;
-import java.util.List;
 import java.util.Set;
 import java.util.TreeSet;
 
 /**
- * Runs the tests at the boundaries, and compares the sentences that they are for with those of the
- * document: each sentence of its terms and promises has a test that runs, and none is misquoted.
+ * Runs the tests that name the sentences which they are for, and compares these sentences with the
+ * document: each one up to its last promise has a test that runs, and none is misquoted.
  */
 final class SentencesTest {
     private static final Path DOCUMENT = Path.of("../shared/DOC.md");
 
     private static final Check CHECK = new Check();
-
-    /** Sentences that promise nothing of their own, by their beginnings. */
-    private static final List<String> WITHOUT_PROMISE = List.of("A ledger of personal data:",
-            "The calls are those of a data protection desk:", "Ahead of the calls");
 
     private static final int NO_SECTION = -1;
 
@@ -25,6 +20,8 @@ final class SentencesTest {
             System.out.println("there is no " + DOCUMENT + " to compare with");
             return;
         }
+        FaceTest.main(args);
+        WholeLedgerTest.main(args);
         PurposesBoundaryTest.main(args);
         AddingBoundaryTest.main(args);
         RecordsBoundaryTest.main(args);
@@ -76,7 +73,7 @@ final class SentencesTest {
         }
         for (String sentence : text.split("(?<=\\.) ")) {
             boolean isHeading = !sentence.contains(" ");
-            if (!isHeading && WITHOUT_PROMISE.stream().noneMatch(sentence::startsWith)) {
+            if (!isHeading) {
                 sentences.add(section + " " + sentence);
             }
         }

@@ -1,5 +1,15 @@
+import java.util.List;
+
 /** The sentences of the document from outside its promises, for the tests that are for them. */
 final class Terms {
+    static final String WHAT_IT_IS =
+            "A ledger of personal data: which records there are of whom, for which purposes they"
+            + " may be used and until when, what was derived from what, which cases hold them, and"
+            + " how they are erased so that nothing derived is left behind.";
+    static final String DESK =
+            "The calls are those of a data protection desk: purposes are set up, consents given and"
+            + " withdrawn, records added and derived, days pass, erasure is asked for and done"
+            + " record by record; everything can be asked at any time.";
     static final String LAST_CALL =
             "An object is used for at most 512 calls after it has been made; what later calls"
             + " answer is free.";
@@ -56,6 +66,19 @@ final class Terms {
     static final String NONE = "The constants: `NONE = -1`: There is no such record or day.";
     static final String STATE_NUMBERS =
             "`PRESENT = 0, REQUESTED = 1, ERASED = 2`: The states of a record.";
+    /** What the interface says ahead of its calls, in their order. */
+    static final List<String> HEADINGS = List.of(
+            "Ahead of the calls `addPurpose`, `setRetention`, `consent`, `consents`,"
+            + " `daysWithConsent` the interface says: ---- purposes and consents.",
+            "Ahead of the calls `add`, `derive`, `addSource`, `records`, `stateOf`, `subjectsOf`,"
+            + " `below`, `endOf` the interface says: ---- records.",
+            "Ahead of the calls `whyNoUse`, `use`, `uses` the interface says: ---- use.",
+            "Ahead of the calls `passDays`, `day`, `nextEnd` the interface says: ---- days.",
+            "Ahead of the calls `hold`, `close`, `held` the interface says: ---- cases.",
+            "Ahead of the calls `request`, `whyKept`, `erase`, `eraseAll` the interface says:"
+            + " ---- erasing.",
+            "Ahead of the calls `traces`, `tracesFromRoots`, `due` the interface says:"
+            + " ---- traces.");
 
     private Terms() {
     }
